@@ -40,6 +40,11 @@ public final class EarsTest {
         ears.leaveOut(1, true);
         due("ear(1, 4)", ears.ear(1, 4), 1);
         due("ear(1, 5)", ears.ear(1, 5), 9510);
+        ears.leaveOut(0, true);
+        due("ear(1, 5) without marks", ears.ear(1, 5), ThumpEars.NONE);
+        ears.leaveOut(1, false);
+        due("ear(1, 5)", ears.ear(1, 5), 10505);
+        due("ear(1, 4)", ears.ear(1, 4), 1);
         ears.mute(1, true);
         due("ear(1, 1)", ears.ear(1, 1), 1);
         due("ear(1, 6) stays", ears.ear(1, 6), 3);

@@ -7,6 +7,7 @@ public final class HeardTest {
         roundedTimes();
         lowestPlace();
         worstEar();
+        tenEars();
         promise23();
         promise24();
         promise25();
@@ -112,6 +113,7 @@ public final class HeardTest {
         due("late by 5: found(0, 0)", ears.found(0, 0), 0);
         due("late by 5: found(0, 2)", ears.found(0, 2), 5000);
         due("late by 5: found(0, 4)", ears.found(0, 4), 1);
+        due("late by 5, both 2.5 from the middle: found(0, 5)", ears.found(0, 5), 0);
         due("late by 5: count(8)", ears.count(8), 1);
         ears.set(1, 4);
         due("the tolerance of now: found(0, 4)", ears.found(0, 4), 0);
@@ -140,9 +142,31 @@ public final class HeardTest {
         due("odd: putRight(2, 1)", odd.putRight(2, 1), 16334);
         due("odd: found(1, 1)", odd.found(1, 1), 15000);
         due("odd: found(2, 1)", odd.found(2, 1), 15667);
+        ThumpEars below = new ThumpEars();
+        below.bury(10);
+        below.bury(10);
+        below.setClock(1, -3, 0);
+        below.thump(10, 7, 1);
+        below.setClock(1, -4, 0);
+        below.thump(10, 11, 1);
+        below.setClock(1, -6, 0);
+        below.setClock(0, 1, 0);
+        below.knock(10, 15, 1);
+        due("below 0: found(0, 0)", below.found(0, 0), 0);
+        // beginnings 16000 - 30000 and 13667 - 30000: their sum is -30333
+        due("below 0: found(0, 1)", below.found(0, 1), -15167);
     }
 
     private static void lowestPlace() {
+        for (int place = 0; place <= 1000; place += place == 1 ? 998 : 1) {
+            ThumpEars apart = new ThumpEars();
+            apart.bury(0);
+            apart.bury(1000);
+            apart.knock(place, 0, 1000);
+            due("the ends, " + place + ": truth(0, 2)", apart.truth(0, 2), 0);
+            due("the ends, " + place + ": found(0, 0)", apart.found(0, 0), place);
+            due("the ends, " + place + ": found(0, 2)", apart.found(0, 2), 0);
+        }
         // of two ears at one place each place is as good as another; of two ears apart, all beyond one of them
         ThumpEars ears = new ThumpEars();
         ears.bury(300);
@@ -209,6 +233,46 @@ public final class HeardTest {
         other.setClock(1, 1, 0);
         other.knock(0, 15, 1);
         due("other: found(0, 5)", other.found(0, 5), 1);
+        ThumpEars three = new ThumpEars();
+        int[] offsets = {5, 0, 10};
+        for (int ear = 0; ear < 3; ear++) {
+            three.bury(0);
+            three.setClock(ear, offsets[ear], 0);
+        }
+        three.knock(0, 100, 1);
+        due("an early one is as bad as a late one: found(0, 5)", three.found(0, 5), 1);
+    }
+
+    private static void tenEars() {
+        ThumpEars ears = new ThumpEars();
+        for (int ear = 0; ear < 10; ear++) {
+            ears.bury(100 * ear);
+        }
+        ears.setClock(9, 30, 0);
+        ears.thump(450, 0, 1000);
+        for (int knock = 0; knock < 10; knock++) {
+            due("ten ears hear", ears.knock(111 * knock, 1000 * knock, 1000), 10);
+            due("ten ears: truth", ears.truth(knock, 2), knock == 9 ? 99 : 0);
+        }
+        due("ten ears: found(9, 3)", ears.found(9, 3), 10);
+        due("ten ears: count(8)", ears.count(8), 10);
+        for (int ear = 0; ear < 10; ear++) {
+            due("ten ears: putRight(5, " + ear + ")", ears.putRight(5, ear), 5000000 + 3000 * Math.abs(555 - 100 * ear));
+            due("ten ears: ear(" + ear + ", 6)", ears.ear(ear, 6), 10);
+            due("ten ears: mute", ears.mute(ear, true), ear + 1);
+        }
+        due("ten ears: count(6)", ears.count(6), 10);
+        for (int thump = 1; thump < 10; thump++) {
+            ears.thump(0, 9000, 1);
+        }
+        for (int thump = 0; thump < 10; thump++) {
+            due("ten thumps: leaveOut", ears.leaveOut(thump, true), thump + 1);
+        }
+        due("ten thumps: count(7)", ears.count(7), 10);
+        // the last ear is late by 30 then; at 883 and 895 that does not show for the knocks at 888 and 999
+        due("without marks: found(8, 0)", ears.found(8, 0), 883);
+        due("without marks: found(9, 0)", ears.found(9, 0), 895);
+        due("without marks: count(8)", ears.count(8), 2);
     }
 
     private static void promise23() {
@@ -234,6 +298,10 @@ public final class HeardTest {
         ears.set(0, 1);
         due("by the pace of the knock: spread(0, 300)", ears.spread(0, 300), 0);
         due("by the pace of the knock: spread(0, 301)", ears.spread(0, 301), 6000);
+        ears.knock(400, 10, 200);
+        due("two ears: found(3, 3)", ears.found(3, 3), 2);
+        due("two ears: spread(3, 400)", ears.spread(3, 400), 0);
+        due("two ears: spread(3, 410)", ears.spread(3, 410), 20000);
     }
 
     private static void promise24() {

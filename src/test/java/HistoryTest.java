@@ -4,6 +4,7 @@ public final class HistoryTest {
         promise12();
         everyActIsUndone();
         promise13And14();
+        anotherWayFromTheSameState();
         Answers.end();
     }
 
@@ -134,5 +135,40 @@ public final class HistoryTest {
         due("keep() in place of the one that was", other.keep(), 5);
         other.undo();
         due("undo() leaves the snapshot", other.restore(), 5);
+    }
+
+    /** What was kept and what came in its place differ in nothing but the values of the same rows. */
+    private static void anotherWayFromTheSameState() {
+        ThumpEars ears = new ThumpEars();
+        ears.bury(10);
+        ears.bury(20);
+        ears.setClock(0, 100, 9);
+        ears.thump(30, 500, 1000);
+        ears.keep();
+        String kept = Answers.stateOf(ears);
+        for (int left = 3; left >= 0; left--) {
+            due("back: undo()", ears.undo(), left);
+        }
+        ears.bury(990);
+        ears.bury(980);
+        ears.setClock(0, 101, 8);
+        ears.set(0, 7);
+        ears.thump(40, 600, 1000);
+        String other = Answers.stateOf(ears);
+        due("back: restore()", ears.restore(), 1);
+        Answers.same("back: what was kept", Answers.stateOf(ears), kept);
+        due("back: undo()", ears.undo(), 3);
+        Answers.same("back: what came in its place", Answers.stateOf(ears), other);
+        ThumpEars knocks = new ThumpEars();
+        knocks.bury(10);
+        knocks.bury(20);
+        knocks.knock(30, 500, 1000);
+        knocks.keep();
+        kept = Answers.stateOf(knocks);
+        knocks.undo();
+        knocks.set(0, 2);
+        knocks.knock(15, 600, 1000);
+        knocks.restore();
+        Answers.same("knocks: what was kept", Answers.stateOf(knocks), kept);
     }
 }

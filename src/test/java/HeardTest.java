@@ -108,6 +108,18 @@ public final class HeardTest {
         return ears;
     }
 
+    /** Two ears at a place, of which one has the marks (4, -3) and (7, -4), readings and errors. */
+    private static ThumpEars drifting(int place, int ear) {
+        ThumpEars ears = new ThumpEars();
+        ears.bury(place);
+        ears.bury(place);
+        ears.setClock(ear, -3, 0);
+        ears.thump(place, 7, 1);
+        ears.setClock(ear, -4, 0);
+        ears.thump(place, 11, 1);
+        return ears;
+    }
+
     private static void roundedTimes() {
         ThumpEars ears = late(5);
         due("late by 5: found(0, 0)", ears.found(0, 0), 0);
@@ -122,14 +134,8 @@ public final class HeardTest {
         ThumpEars zero = late(0);
         zero.set(1, 0);
         due("a tolerance of 0: found(0, 4)", zero.found(0, 4), 1);
-        ThumpEars odd = new ThumpEars();
-        odd.bury(0);
-        odd.bury(0);
-        odd.setClock(1, -3, 0);
-        odd.thump(0, 7, 1);
-        odd.setClock(1, -4, 0);
-        odd.thump(0, 11, 1);
-        // marks of the second ear (4, -3) and (7, -4): the reading 8 is put right to 12333 + 1/3, rounded up by that
+        ThumpEars odd = drifting(0, 1);
+        // the reading 8 is put right to 12333 + 1/3: the error is rounded down, and so this is rounded up
         odd.knock(0, 12, 1);
         due("odd: putRight(0, 1)", odd.putRight(0, 1), 12334);
         due("odd: putRight(0, 0)", odd.putRight(0, 0), 12000);
@@ -142,13 +148,7 @@ public final class HeardTest {
         due("odd: putRight(2, 1)", odd.putRight(2, 1), 16334);
         due("odd: found(1, 1)", odd.found(1, 1), 15000);
         due("odd: found(2, 1)", odd.found(2, 1), 15667);
-        ThumpEars below = new ThumpEars();
-        below.bury(10);
-        below.bury(10);
-        below.setClock(1, -3, 0);
-        below.thump(10, 7, 1);
-        below.setClock(1, -4, 0);
-        below.thump(10, 11, 1);
+        ThumpEars below = drifting(10, 1);
         below.setClock(1, -6, 0);
         below.setClock(0, 1, 0);
         below.knock(10, 15, 1);
@@ -208,13 +208,7 @@ public final class HeardTest {
         ears.mute(0, true);
         ears.knock(500, 100, 1000);
         due("an ear that did not hear it is not the worst: found(1, 5)", ears.found(1, 5) == 0 ? 1 : 0, 0);
-        ThumpEars odd = new ThumpEars();
-        odd.bury(0);
-        odd.bury(0);
-        odd.setClock(1, -3, 0);
-        odd.thump(0, 7, 1);
-        odd.setClock(1, -4, 0);
-        odd.thump(0, 11, 1);
+        ThumpEars odd = drifting(0, 1);
         odd.setClock(1, -6, 0);
         odd.setClock(0, 1, 0);
         odd.knock(0, 15, 1);
@@ -222,13 +216,7 @@ public final class HeardTest {
         due("odd: putRight(0, 1)", odd.putRight(0, 1), 13667);
         due("odd: found(0, 1)", odd.found(0, 1), 14833);
         due("odd: the rounded time is nearer to the lesser one: found(0, 5)", odd.found(0, 5), 0);
-        ThumpEars other = new ThumpEars();
-        other.bury(0);
-        other.bury(0);
-        other.setClock(0, -3, 0);
-        other.thump(0, 7, 1);
-        other.setClock(0, -4, 0);
-        other.thump(0, 11, 1);
+        ThumpEars other = drifting(0, 0);
         other.setClock(0, -6, 0);
         other.setClock(1, 1, 0);
         other.knock(0, 15, 1);
@@ -257,7 +245,8 @@ public final class HeardTest {
         due("ten ears: found(9, 3)", ears.found(9, 3), 10);
         due("ten ears: count(8)", ears.count(8), 10);
         for (int ear = 0; ear < 10; ear++) {
-            due("ten ears: putRight(5, " + ear + ")", ears.putRight(5, ear), 5000000 + 3000 * Math.abs(555 - 100 * ear));
+            long wayTime = 3000L * Math.abs(555 - 100 * ear);
+            due("ten ears: putRight(5, " + ear + ")", ears.putRight(5, ear), 5000000 + wayTime);
             due("ten ears: ear(" + ear + ", 6)", ears.ear(ear, 6), 10);
             due("ten ears: mute", ears.mute(ear, true), ear + 1);
         }

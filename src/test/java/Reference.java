@@ -16,7 +16,8 @@ final class Reference {
     }
 
     /** What was made, and the readings by the ears that heard it. */
-    private record Sound(boolean knock, int place, int time, int pace, boolean leftOut, TreeMap<Integer, Integer> heard) {
+    private record Sound(boolean knock, int place, int time, int pace, boolean leftOut,
+        TreeMap<Integer, Integer> heard) {
     }
 
     private record State(List<Ear> ears, List<Sound> thumps, List<Sound> knocks, int pace, int tolerance, int latest) {

@@ -159,7 +159,8 @@ public final class ReferenceTest {
             int what = within(0, 2);
             Answers.due(where + "mark", ears.mark(a, mark, what), reference.mark(a, mark, what));
         } else if (kind < 72) {
-            int reading = upTo(1) == 0 ? within(-10000, 300000) : Math.max(0, reference.ear(a, 5) - 10000) + within(-9, 9);
+            int nearLatest = Math.max(0, reference.ear(a, 5) - 10000) + within(-9, 9);
+            int reading = upTo(1) == 0 ? within(-10000, 300000) : nearLatest;
             Answers.due(where + "error", ears.error(a, reading), reference.error(a, reading));
         } else if (kind < 75) {
             Answers.due(where + "stalest", ears.stalest(), reference.stalest());

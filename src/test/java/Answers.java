@@ -5,6 +5,18 @@ final class Answers {
     static final long LONG_NOT_POSSIBLE = Long.MIN_VALUE + 4;
     static final long LONG_NONE = Long.MIN_VALUE + 5;
 
+    /** Calls on an object, which can be made once more on another one. */
+    interface Run {
+        void on(ThumpEars ears);
+
+        default Run and(Run behind) {
+            return ears -> {
+                on(ears);
+                behind.on(ears);
+            };
+        }
+    }
+
     private static int asked = 0;
     private static int wrong = 0;
 
@@ -32,33 +44,63 @@ final class Answers {
         return ears.readOrders();
     }
 
-    /** All that a string tells about its state (and not about text and history), in one number a call. */
-    static String stateOf(ThumpEars ears) {
+    /** All that is told of the state that a run leaves behind (and not of text and history). */
+    static String stateAfter(Run run) {
         StringBuilder told = new StringBuilder();
-        for (int what = 0; what <= 8; what++) {
-            told.append(ears.count(what)).append(' ');
-        }
-        for (int ear = 0; ear < 10; ear++) {
-            for (int what = 0; what <= 6; what++) {
-                told.append(ears.ear(ear, what)).append(' ');
-            }
-            for (int number = 0; number < 10; number++) {
-                told.append(ears.heard(false, number, ear)).append(' ');
-                told.append(ears.heard(true, number, ear)).append(' ');
-                told.append(ears.mark(ear, number, 1)).append(' ');
-                told.append(ears.mark(ear, number, 2)).append(' ');
-                told.append(ears.putRight(number, ear)).append(' ');
+        // the document promises nothing after the 512th call of an object: so not all is asked of the same one
+        for (int first = 0; first < 10; first += 4) {
+            ThumpEars ears = after(run);
+            for (int ear = first; ear < Math.min(first + 4, 10); ear++) {
+                tellEar(ears, ear, told);
             }
         }
-        for (int knock = 0; knock < 10; knock++) {
-            told.append(ears.truth(knock, 0)).append(' ').append(ears.truth(knock, 1)).append(' ');
-            told.append(ears.spread(knock, 500)).append(' ');
-        }
+        tellKnocks(after(run), told);
         return told.toString();
     }
 
+    static ThumpEars after(Run run) {
+        ThumpEars ears = new ThumpEars();
+        run.on(ears);
+        return ears;
+    }
+
+    private static void tellEar(ThumpEars ears, int ear, StringBuilder told) {
+        for (int what = 0; what <= 6; what++) {
+            told.append(ears.ear(ear, what)).append(' ');
+        }
+        told.append(ears.clock(ear, 12345)).append(' ').append(ears.error(ear, 6789)).append(' ');
+        for (int number = 0; number < 10; number++) {
+            told.append(ears.heard(false, number, ear)).append(' ');
+            told.append(ears.heard(true, number, ear)).append(' ');
+            told.append(ears.mark(ear, number, 0)).append(' ');
+            told.append(ears.mark(ear, number, 1)).append(' ');
+            told.append(ears.mark(ear, number, 2)).append(' ');
+            told.append(ears.putRight(number, ear)).append(' ');
+        }
+    }
+
+    private static void tellKnocks(ThumpEars ears, StringBuilder told) {
+        for (int what = 0; what <= 8; what++) {
+            told.append(ears.count(what)).append(' ');
+        }
+        told.append(ears.stalest()).append(' ');
+        for (int knock = 0; knock < 10; knock++) {
+            for (int what = 0; what <= 5; what++) {
+                told.append(ears.found(knock, what)).append(' ');
+            }
+            for (int what = 0; what <= 2; what++) {
+                told.append(ears.truth(knock, what)).append(' ');
+            }
+            told.append(ears.spread(knock, 500)).append(' ');
+        }
+    }
+
     static void same(String what, String got, String want) {
-        due(what, got.equals(want) ? 1 : 0, 1);
+        due(what + " is the same", got.equals(want) ? 1 : 0, 1);
+    }
+
+    static void differs(String what, String got, String other) {
+        due(what + " is another one", got.equals(other) ? 0 : 1, 1);
     }
 
     static void end() {

@@ -36,9 +36,8 @@ public final class HistoryTest {
         due("ear(5, 0)", ears.ear(5, 0), ThumpEars.UNKNOWN);
     }
 
-    /** A string of which each part of the state is other than at first. */
-    private static ThumpEars used() {
-        ThumpEars ears = new ThumpEars();
+    /** Leaves a string of which each part of the state is other than at first. */
+    private static void use(ThumpEars ears) {
         ears.bury(10);
         ears.bury(600);
         ears.bury(900);
@@ -52,7 +51,6 @@ public final class HistoryTest {
         ears.mute(1, true);
         ears.leaveOut(1, true);
         ears.knock(310, 6000, 900);
-        return ears;
     }
 
     private static int act(ThumpEars ears, int number) {
@@ -86,21 +84,23 @@ public final class HistoryTest {
 
     private static void everyActIsUndone() {
         for (int number = 0; number <= 11; number++) {
-            ThumpEars ears = used();
-            Answers.type(ears, "t5@7000;k7@8000*800");
-            if (number == 11) {
+            int act = number;
+            Answers.Run run = ears -> {
+                use(ears);
+                Answers.type(ears, "t5@7000;k7@8000*800");
                 // the snapshot is that of another state than the one that is undone
                 ears.keep();
-                ears.knock(1, 9000, 500);
+                ears.knock(1, 6500, 500);
                 ears.bury(55);
-            }
-            String before = Answers.stateOf(ears);
+            };
+            Answers.Run done = run.and(ears -> act(ears, act));
+            String before = Answers.stateAfter(run);
+            Answers.differs("act " + number + ": the state", Answers.stateAfter(done), before);
+            Answers.same("act " + number + ": the state", Answers.stateAfter(done.and(ears -> ears.undo())), before);
+            ThumpEars ears = Answers.after(run);
             due("act " + number + " is done", act(ears, number) >= 0 ? 1 : 0, 1);
-            String after = Answers.stateOf(ears);
-            Answers.same("act " + number + " changes the state", String.valueOf(after.equals(before)), "false");
             due("act " + number + ": count(9)", ears.count(9), 4);
             due("act " + number + ": undo()", ears.undo(), 3);
-            Answers.same("act " + number + " is undone", Answers.stateOf(ears), before);
             due("act " + number + ": the text stays", ears.count(10), 19);
         }
     }
@@ -112,25 +112,28 @@ public final class HistoryTest {
         due("keep() is no act", ears.count(9), 0);
         due("restore() of the same state", ears.restore(), 0);
         due("restore() is an act", ears.count(9), 1);
-        ThumpEars other = used();
-        due("keep()", other.keep(), 4);
-        String kept = Answers.stateOf(other);
-        other.thump(0, 50000, 10);
-        other.bury(3);
-        other.setClock(1, 9, 9);
-        other.mute(1, false);
-        other.leaveOut(1, false);
-        other.set(0, 5);
-        other.set(1, 5);
-        String later = Answers.stateOf(other);
-        due("restore()", other.restore(), 4);
-        Answers.same("the state is restored", Answers.stateOf(other), kept);
-        due("undo() of restore()", other.undo(), 3);
-        Answers.same("restore() is undone", Answers.stateOf(other), later);
-        due("the snapshot stays", other.restore(), 4);
-        other.knock(1, 60000, 10);
-        due("restore() again", other.restore(), 4);
-        Answers.same("the snapshot did not change with the state", Answers.stateOf(other), kept);
+        Answers.Run kept = HistoryTest::use;
+        Answers.Run later = kept.and(other -> {
+            due("keep()", other.keep(), 4);
+            other.thump(0, 50000, 10);
+            other.bury(3);
+            other.setClock(1, 9, 9);
+            other.mute(1, false);
+            other.leaveOut(1, false);
+            other.set(0, 5);
+            other.set(1, 5);
+        });
+        Answers.Run restored = later.and(other -> due("restore()", other.restore(), 4));
+        Answers.same("the state of the snapshot", Answers.stateAfter(restored), Answers.stateAfter(kept));
+        Answers.Run undone = restored.and(other -> due("undo() of restore()", other.undo(), 3));
+        Answers.same("the state ahead of restore()", Answers.stateAfter(undone), Answers.stateAfter(later));
+        Answers.Run again = undone.and(other -> {
+            due("the snapshot stays", other.restore(), 4);
+            other.knock(1, 60000, 10);
+            due("restore() again", other.restore(), 4);
+        });
+        Answers.same("the snapshot that is used twice", Answers.stateAfter(again), Answers.stateAfter(kept));
+        ThumpEars other = Answers.after(again);
         other.knock(1, 60000, 10);
         due("keep() in place of the one that was", other.keep(), 5);
         other.undo();
@@ -139,36 +142,39 @@ public final class HistoryTest {
 
     /** What was kept and what came in its place differ in nothing but the values of the same rows. */
     private static void anotherWayFromTheSameState() {
-        ThumpEars ears = new ThumpEars();
-        ears.bury(10);
-        ears.bury(20);
-        ears.setClock(0, 100, 9);
-        ears.thump(30, 500, 1000);
-        ears.keep();
-        String kept = Answers.stateOf(ears);
-        for (int left = 3; left >= 0; left--) {
-            due("back: undo()", ears.undo(), left);
-        }
-        ears.bury(990);
-        ears.bury(980);
-        ears.setClock(0, 101, 8);
-        ears.set(0, 7);
-        ears.thump(40, 600, 1000);
-        String other = Answers.stateOf(ears);
-        due("back: restore()", ears.restore(), 1);
-        Answers.same("back: what was kept", Answers.stateOf(ears), kept);
-        due("back: undo()", ears.undo(), 3);
-        Answers.same("back: what came in its place", Answers.stateOf(ears), other);
-        ThumpEars knocks = new ThumpEars();
-        knocks.bury(10);
-        knocks.bury(20);
-        knocks.knock(30, 500, 1000);
-        knocks.keep();
-        kept = Answers.stateOf(knocks);
-        knocks.undo();
-        knocks.set(0, 2);
-        knocks.knock(15, 600, 1000);
-        knocks.restore();
-        Answers.same("knocks: what was kept", Answers.stateOf(knocks), kept);
+        Answers.Run kept = ears -> {
+            ears.bury(10);
+            ears.bury(20);
+            ears.setClock(0, 100, 9);
+            ears.thump(30, 500, 1000);
+            ears.keep();
+        };
+        Answers.Run other = kept.and(ears -> {
+            for (int left = 3; left >= 0; left--) {
+                due("back: undo()", ears.undo(), left);
+            }
+            ears.bury(990);
+            ears.bury(980);
+            ears.setClock(0, 101, 8);
+            ears.set(0, 7);
+            ears.thump(40, 600, 1000);
+        });
+        Answers.Run restored = other.and(ears -> due("back: restore()", ears.restore(), 1));
+        Answers.same("back: what was kept", Answers.stateAfter(restored), Answers.stateAfter(kept));
+        Answers.Run undone = restored.and(ears -> due("back: undo()", ears.undo(), 3));
+        Answers.same("back: what came in its place", Answers.stateAfter(undone), Answers.stateAfter(other));
+        Answers.Run knocks = ears -> {
+            ears.bury(10);
+            ears.bury(20);
+            ears.knock(30, 500, 1000);
+            ears.keep();
+        };
+        Answers.Run back = knocks.and(ears -> {
+            ears.undo();
+            ears.set(0, 2);
+            ears.knock(15, 600, 1000);
+            ears.restore();
+        });
+        Answers.same("knocks: what was kept", Answers.stateAfter(back), Answers.stateAfter(knocks));
     }
 }

@@ -48,16 +48,16 @@ public final class OrdersTest {
             {"t0@0;t0@0;t0@0;t0@0;t0@0;t0@0;t0@0;t0@0;t0@0;t0@0;t0@0;t0@0;", 60},
             {"t0@0;t0@0;t0@0;t0@0;t0@0;t0@0;t0@0;t0@0;t0@0;t0@0;t0@0;t0@0*", 60},
         };
-        ThumpEars ears = new ThumpEars();
         for (Object[] row : rows) {
+            ThumpEars ears = new ThumpEars();
             String text = (String) row[0];
             due("orders of \"" + text + "\"", Answers.orders(ears, text), -100 - (int) row[1]);
             due("the text stays", ears.count(10), text.length());
+            due("no thumps", ears.count(1) + ears.count(2), 0);
+            due("no act: count(9)", ears.count(9), 0);
         }
-        due("no thumps", ears.count(1) + ears.count(2), 0);
-        due("no act: count(9)", ears.count(9), 0);
         // behind the fault, no order is looked at, and ahead of it none is done
-        due("a fault goes ahead of a refusal", Answers.orders(ears, "t9999@1;x"), -108);
+        due("a fault goes ahead of a refusal", Answers.orders(new ThumpEars(), "t9999@1;x"), -108);
     }
 
     private static void sound() {
@@ -83,22 +83,27 @@ public final class OrdersTest {
     }
 
     private static void refusals() {
-        ThumpEars ears = new ThumpEars();
-        ears.bury(0);
-        ears.thump(0, 50, 10);
-        String before = Answers.stateOf(ears);
-        due("a bad place", Answers.orders(ears, "t0@60;k1001@70"), ThumpEars.BAD_VALUE);
-        due("a bad time", Answers.orders(ears, "t0@60;k0@100001"), ThumpEars.BAD_VALUE);
-        due("a bad reach", Answers.orders(ears, "t0@60;k0@70*1001"), ThumpEars.BAD_VALUE);
-        due("the reach 0", Answers.orders(ears, "t0@60*0"), ThumpEars.BAD_VALUE);
-        due("too early", Answers.orders(ears, "t0@49"), ThumpEars.NOT_POSSIBLE);
-        due("too early behind an order", Answers.orders(ears, "t0@60;k0@59"), ThumpEars.NOT_POSSIBLE);
-        due("too early behind a knock", Answers.orders(ears, "k0@60;t0@59"), ThumpEars.NOT_POSSIBLE);
-        due("the first refusal counts", Answers.orders(ears, "t0@60;k0@59;t1001@70"), ThumpEars.NOT_POSSIBLE);
-        due("bad ahead of early", Answers.orders(ears, "t0@60;k0@59*0"), ThumpEars.BAD_VALUE);
-        Answers.same("none is done", Answers.stateOf(ears), before);
-        due("no act: count(9)", ears.count(9), 2);
-        due("the latest time is as before", Answers.orders(ears, "k0@50"), 1);
+        refusal("a bad place", "t0@60;k1001@70", ThumpEars.BAD_VALUE);
+        refusal("a bad time", "t0@60;k0@100001", ThumpEars.BAD_VALUE);
+        refusal("a bad reach", "t0@60;k0@70*1001", ThumpEars.BAD_VALUE);
+        refusal("the reach 0", "t0@60*0", ThumpEars.BAD_VALUE);
+        refusal("too early", "t0@49", ThumpEars.NOT_POSSIBLE);
+        refusal("too early behind an order", "t0@60;k0@59", ThumpEars.NOT_POSSIBLE);
+        refusal("too early behind a knock", "k0@60;t0@59", ThumpEars.NOT_POSSIBLE);
+        refusal("the first refusal counts", "t0@60;k0@59;t1001@70", ThumpEars.NOT_POSSIBLE);
+        refusal("bad ahead of early", "t0@60;k0@59*0", ThumpEars.BAD_VALUE);
+    }
+
+    private static void refusal(String name, String text, int error) {
+        Answers.Run run = ears -> {
+            ears.bury(0);
+            ears.thump(0, 50, 10);
+        };
+        Answers.Run refused = run.and(ears -> due(name, Answers.orders(ears, text), error));
+        Answers.same(name + ": the state", Answers.stateAfter(refused), Answers.stateAfter(run));
+        ThumpEars ears = Answers.after(refused);
+        due(name + ": no act: count(9)", ears.count(9), 2);
+        due(name + ": the latest time is as before", Answers.orders(ears, "k0@50"), 1);
     }
 
     private static void fullInTheMiddle() {

@@ -40,6 +40,7 @@ public final class HistoryEndsTest {
         backAndForth();
         snapshots();
         firstAnswersOfNothing();
+        tenthOfAll();
         Answers.end();
     }
 
@@ -242,5 +243,80 @@ public final class HistoryEndsTest {
         due("zero: count(9)", ears.count(9), 3);
         due("undo()", ears.undo(), 2);
         due("count(4)", ears.count(4), 0);
+    }
+
+    private static void nineOfAll(ThumpEars ears) {
+        for (int i = 0; i < 9; i++) {
+            ears.bury(100 * i);
+        }
+        for (int i = 0; i < 9; i++) {
+            ears.thump(40 * i, 1000 * i, 1000);
+            ears.knock(90 * i, 1000 * i, 1000);
+        }
+    }
+
+    /** The last ear, thump and knock that there is room for are restored like the others. */
+    private static void tenthOfAll() {
+        Answers.Run nine = HistoryEndsTest::nineOfAll;
+        Answers.Run first = ears -> {
+            ears.bury(111);
+            ears.setClock(9, 77, 7);
+            ears.thump(222, 10000, 1000);
+            ears.knock(333, 12000, 1000);
+        };
+        Answers.Run second = ears -> {
+            ears.bury(888);
+            ears.setClock(9, -66, -6);
+            ears.thump(777, 11000, 900);
+            ears.knock(666, 13000, 900);
+        };
+        twoWays("ear, thump and knock", nine, first, second, 4);
+        twoWays("ear, thump and knock, turned", nine, second, first, 4);
+        Answers.Run ten = nine.and(ears -> ears.bury(950));
+        first = ears -> {
+            ears.set(0, 9);
+            ears.thump(222, 10000, 1000);
+            ears.leaveOut(9, true);
+            ears.mute(9, true);
+        };
+        second = ears -> {
+            ears.set(0, 2);
+            ears.thump(222, 10000, 1000);
+            ears.set(1, 50);
+            ears.set(0, 9);
+        };
+        twoWays("mute, and left out", ten, first, second, 4);
+        twoWays("mute, and left out, turned", ten, second, first, 4);
+        first = ears -> {
+            ears.set(0, 9);
+            ears.knock(222, 10000, 1000);
+            ears.set(0, 5);
+        };
+        second = ears -> {
+            ears.set(0, 2);
+            ears.knock(222, 10000, 1000);
+            ears.set(0, 5);
+        };
+        twoWays("the pace of a knock", ten, first, second, 3);
+        twoWays("the pace of a knock, turned", ten, second, first, 3);
+    }
+
+    /** From one state, two ways by so many acts each: back by undo(), and across by the snapshot. */
+    private static void twoWays(String name, Answers.Run run, Answers.Run first, Answers.Run second, int acts) {
+        Answers.Run kept = run.and(first).and(ears -> ears.keep());
+        Answers.Run back = kept.and(ears -> {
+            for (int i = 1; i <= acts; i++) {
+                due(name + ": undo()", ears.undo(), 4 - i);
+            }
+        });
+        Answers.same(name + ": the state that was", Answers.stateAfter(back), Answers.stateAfter(run));
+        Answers.Run other = back.and(second);
+        String wanted = Answers.stateAfter(run.and(second));
+        Answers.differs(name + ": the other way's state", wanted, Answers.stateAfter(kept));
+        Answers.same(name + ": the other way's state", Answers.stateAfter(other), wanted);
+        Answers.Run restored = other.and(ears -> ears.restore());
+        Answers.same(name + ": what was kept", Answers.stateAfter(restored), Answers.stateAfter(kept));
+        Answers.Run undone = restored.and(ears -> ears.undo());
+        Answers.same(name + ": what is undone", Answers.stateAfter(undone), wanted);
     }
 }

@@ -52,6 +52,25 @@ public final class StringTest {
             due("ear(" + i + ", 3)", ears.ear(i, 3), 1000);
         }
         due("ear(10, 0)", ears.ear(10, 0), ThumpEars.UNKNOWN);
+        newEarAmongOthers();
+    }
+
+    /** An ear is not mute at first, and its clock is right, whatever has become of the other ones. */
+    private static void newEarAmongOthers() {
+        ThumpEars ears = new ThumpEars();
+        for (int ear = 0; ear < 10; ear++) {
+            due("among others: bury", ears.bury(900), ear);
+            int[] wants = {900, 0, 1000, 1000, 0, ThumpEars.NONE, 0};
+            for (int what = 0; what < wants.length; what++) {
+                due("among others: ear(" + ear + ", " + what + ")", ears.ear(ear, what), wants[what]);
+            }
+            due("among others: clock", ears.clock(ear, 200000), 210000);
+            due("among others: setClock", ears.setClock(ear, -500, 50), 1);
+            ears.thump(900, 10 * ear, 1);
+            ears.knock(900, 10 * ear, 1);
+            due("among others: count(6)", ears.count(6), ear);
+            due("among others: mute", ears.mute(ear, true), ear + 1);
+        }
     }
 
     private static void promise3() {
